@@ -1,0 +1,134 @@
+import java.lang.reflect.Constructor;
+import java.lang.reflect.Field;
+import java.lang.reflect.Method;
+import java.lang.reflect.Modifier;
+import java.nio.file.Files;
+import java.nio.file.Path;
+import java.util.ArrayList;
+import java.util.List;
+import java.util.Set;
+import java.util.TreeSet;
+import java.util.regex.Matcher;
+import java.util.regex.Pattern;
+
+/** The public face, and the rules of LANGUAGE.md that the text or the compiled class shows. */
+public final class LanguageTest {
+    private static final Due due = new Due("LanguageTest");
+    private static final Path SOURCE = Path.of("src/main/java/NorthCurtains.java");
+    private static final String[] FACE = {"station 2", "clock 3", "glow 5", "arc 6", "ray 7", "told 2", "colour 1",
+        "lean 1", "table 2", "thick 1", "meets 2", "cross 3", "curtains 1", "curtain 3", "curtainOf 1", "speed 1",
+        "ways 1", "next 2", "overhead 3", "watch 5", "seen 2", "rate 4", "round 1", "best 0", "share 2", "mended 2",
+        "moved 1", "count 1", "sheet 3", "drop 1", "item 4", "arcs 4"};
+    private static final String[] CONSTANTS = {"BAD -1", "NOT -2", "FULL -3", "NONE -4", "NULL -11", "CAST -12",
+        "INDEX -13", "SIZE -14"};
+    private static final String[] BANNED = {"\\bimport\\b", "\\bpackage\\b", "->", "::", "\\bfinally\\b", "\\btry\\b",
+        "\\bcatch\\b", "\\bsynchronized\\b", "\\bassert\\b", "\\bSystem\\.(?!arraycopy)", "\\bObject\\b", "\\bvar\\b",
+        "\\bnative\\b", "\\bThread\\b", "\\b\\w+Exact\\b", "@", "\\bstatic\\s*\\{", "\\bhashCode\\b", "\\btoString\\b",
+        "\\brandom\\b", "\\bdouble\\b", "\\bfloat\\b"};
+
+    public static void main(String[] args) throws Exception {
+        face();
+        constants();
+        members();
+        words();
+        methods();
+        due.end();
+    }
+
+    private static void face() {
+        Set<String> want = new TreeSet<>(List.of(FACE));
+        Set<String> got = new TreeSet<>();
+        for (Method m : NorthCurtains.class.getDeclaredMethods()) {
+            if (!Modifier.isPrivate(m.getModifiers()) && !m.isSynthetic()) {
+                got.add(m.getName() + " " + m.getParameterCount());
+                due.holds(m + " is a public int", Modifier.isPublic(m.getModifiers()) && m.getReturnType() == int.class
+                    && !Modifier.isStatic(m.getModifiers()));
+                for (Class<?> type : m.getParameterTypes()) {
+                    due.holds(m + " takes ints", type == int.class);
+                }
+            }
+        }
+        due.holds("the face is " + got, got.equals(want));
+        Constructor<?>[] made = NorthCurtains.class.getDeclaredConstructors();
+        due.holds("one public constructor", made.length == 1 && Modifier.isPublic(made[0].getModifiers())
+            && made[0].getParameterCount() == 0);
+        due.is("modifiers", NorthCurtains.class.getModifiers(), Modifier.PUBLIC | Modifier.FINAL);
+    }
+
+    private static void constants() throws Exception {
+        Set<String> got = new TreeSet<>();
+        for (Field f : NorthCurtains.class.getDeclaredFields()) {
+            int m = f.getModifiers();
+            due.holds(f + " is private or public", Modifier.isPrivate(m) || Modifier.isPublic(m));
+            due.holds(f + " is static only if final", !Modifier.isStatic(m) || Modifier.isFinal(m));
+            if (Modifier.isPublic(m)) {
+                got.add(f.getName() + " " + f.getInt(null));
+            }
+        }
+        due.holds("the constants are " + got, got.equals(new TreeSet<>(List.of(CONSTANTS))));
+    }
+
+    private static void members() {
+        Set<String> names = new TreeSet<>();
+        for (String f : FACE) {
+            names.add(f.substring(0, f.indexOf(' ')));
+        }
+        Class<?>[] inner = NorthCurtains.class.getDeclaredClasses();
+        due.holds("few classes", inner.length <= 11);
+        for (Class<?> c : inner) {
+            due.holds(c + " is static and not public", Modifier.isStatic(c.getModifiers())
+                && !Modifier.isPublic(c.getModifiers()) && !Modifier.isProtected(c.getModifiers()));
+            for (Method m : c.getDeclaredMethods()) {
+                due.holds(m + " bears no public name", !names.contains(m.getName()));
+            }
+        }
+        for (Method m : NorthCurtains.class.getDeclaredMethods()) {
+            due.holds(m + " bears no public name", Modifier.isPublic(m.getModifiers()) || !names.contains(m.getName()));
+        }
+        List<Class<?>> all = new ArrayList<>(List.of(inner));
+        all.add(NorthCurtains.class);
+        for (Class<?> c : all) {
+            int fields = 0;
+            for (Field f : c.getDeclaredFields()) {
+                fields += Modifier.isStatic(f.getModifiers()) ? 0 : 1;
+            }
+            due.holds(c + " has few fields", fields <= 20);
+        }
+    }
+
+    private static String code() throws Exception {
+        String text = Files.readString(SOURCE);
+        return text.replaceAll("(?s)/\\*.*?\\*/", "").replaceAll("//[^\n]*", "");
+    }
+
+    private static void words() throws Exception {
+        String code = code();
+        for (String banned : BANNED) {
+            Matcher m = Pattern.compile(banned).matcher(code);
+            due.holds("no " + banned, !m.find());
+        }
+        for (char c : Files.readString(SOURCE).toCharArray()) {
+            due.holds("plain signs", c == '\n' || c >= 32 && c < 127);
+        }
+    }
+
+    /** From a method's head at the end of a line to the brace that closes it. */
+    private static void methods() throws Exception {
+        String[] lines = code().split("\n");
+        Pattern head = Pattern.compile("^( {4}| {8})(public |private |static |final )*[\\w\\[\\]]+ ?\\w*\\(([^)]*)\\) \\{$");
+        int found = 0;
+        for (int i = 0; i < lines.length; i++) {
+            Matcher m = head.matcher(lines[i]);
+            if (m.find() && !lines[i].trim().matches("(if|for|while|switch) .*")) {
+                found++;
+                int end = i;
+                while (end < lines.length && !lines[end].equals(m.group(1) + "}")) {
+                    end++;
+                }
+                due.holds("short: " + lines[i].trim(), end - i <= 60);
+                due.holds("few parameters: " + lines[i].trim(), m.group(3).split(",").length <= 7);
+            }
+        }
+        due.holds("methods are found: " + found, found > 60);
+    }
+}
