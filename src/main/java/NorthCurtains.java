@@ -873,7 +873,7 @@ public final class NorthCurtains {
         final Curtain[] curtains = new Curtain[MOST_NIGHT_ARCS];
         private final Arc[] arcs = new Arc[MOST_NIGHT_ARCS];
         private final int[] numbers = new int[MOST_NIGHT_ARCS];
-        // Sets of arcs and of curtains are kept as bits, bit i for the i-th.
+        // Sets of arcs and of curtains are kept as bits, bit i for the i-th; of meetings, each arc's with those ahead.
         private final int[] meeting = new int[MOST_NIGHT_ARCS];
         private final int[] members = new int[MOST_NIGHT_ARCS];
         private final int[] followers = new int[MOST_NIGHT_ARCS];
@@ -950,7 +950,6 @@ public final class NorthCurtains {
             for (int i = 0; i < arcCount; i++) {
                 for (int j = i + 1; j < arcCount; j++) {
                     if (arcs[i].mayBeAtOnceWith(arcs[j]) && crossing.find(arcs[i], arcs[j], thickness)) {
-                        meeting[i] |= 1 << j;
                         meeting[j] |= 1 << i;
                     }
                 }

@@ -58,6 +58,15 @@ public final class CurtainsTest {
         due.is("time 0", x.curtain(3, 0, 1), 110);
         due.is("time 1", x.curtain(3, 1, 1), 130);
         due.is("another night", x.curtains(4), 0);
+        x.arc(0, 4, 120, 45, 8, 0);
+        x.arc(1, 4, 700, 0, 11, 0);
+        x.arc(2, 4, 120, 90, 11, 0);
+        due.is("of other meetings", x.curtains(4), 2);
+        due.is("of other meetings", x.curtainOf(6), 0);
+        x.arc(0, 5, 120, 45, 8, 0);
+        x.arc(1, 5, 700, 0, 11, 0);
+        x.arc(2, 5, 300, 90, 11, 0);
+        due.is("of no meetings", x.curtains(5), 3);
         x.clock(2, 0, 0);
         due.is("by another clock", x.curtains(3), 2);
         x.clock(2, 10, 10);
@@ -244,6 +253,28 @@ public final class CurtainsTest {
         due.is("the later comes first", z.next(0, 1), 0);
         due.is("the later is last", z.next(0, 0), -4);
         due.is("one way", z.ways(0), 1);
+        due.is("overhead the first", z.overhead(0, 1, 0), 0);
+        z.station(230, 230);
+        due.is("a minute each, and ten for ten", z.overhead(0, 1, 5), 30);
+        takenFollower();
+    }
+
+    /** 0 and 1 could both be followed by 2 alone. */
+    private static void takenFollower() {
+        NorthCurtains x = crossroads();
+        put(x, 100, 0, 3);
+        put(x, 100, 1, 4);
+        put(x, 120, 0, 4);
+        due.is("curtains", x.curtains(0), 3);
+        due.is("ways", x.ways(0), 2);
+        due.is("next 0", x.next(0, 0), 2);
+        due.is("next 1", x.next(0, 1), -4);
+        due.is("next 2", x.next(0, 2), -4);
+        put(x, 140, 1, 4);
+        due.is("ways", x.ways(0), 2);
+        due.is("next 0", x.next(0, 0), 2);
+        due.is("next 1", x.next(0, 1), 3);
+        due.is("next 2", x.next(0, 2), -4);
     }
 
     private static void overhead() {
@@ -271,10 +302,31 @@ public final class CurtainsTest {
         put(z, 100, 0, 4);
         put(z, 300, 0, 3);
         due.is("cut toward 0", z.overhead(0, 0, 5), 2);
+        overheadSoon();
         overheadFar();
     }
 
-    /** The squares go beyond an int. */
+    /** One minute between, and one minute behind. */
+    private static void overheadSoon() {
+        NorthCurtains x = new NorthCurtains();
+        x.thick(200);
+        x.station(100, 0);
+        x.station(0, 100);
+        x.station(0, 120);
+        x.station(100, 140);
+        x.station(100, 131);
+        x.station(0, 2000);
+        x.arc(0, 0, 100, 0, 20, 0);
+        x.arc(1, 0, 100, 90, 20, 0);
+        x.arc(0, 0, 101, 0, 20, 0);
+        x.arc(2, 0, 101, 90, 20, 0);
+        due.is("next", x.next(0, 0), 1);
+        due.is("one minute", x.overhead(0, 0, 3), 1);
+        due.is("nearer by one", x.overhead(0, 0, 4), 1);
+        due.is("94 minutes", x.overhead(0, 0, 5), 94);
+    }
+
+    /** Away from a station that is to the north-east. */
     private static void overheadFar() {
         NorthCurtains x = new NorthCurtains();
         x.thick(200);
@@ -304,6 +356,9 @@ public final class CurtainsTest {
         x.arc(0, 1, 5, 5, 5, 0);
         due.is("ten", x.curtains(0), 10);
         due.is("last of ten", x.curtainOf(9), 9);
+        due.is("no ways of ten", x.ways(0), 0);
+        due.is("none of ten", x.next(0, 9), -4);
+        due.is("not ten", x.next(0, 10), -1);
         x.ray(0, 0, 5, 5, 5, 0, 0);
         due.is("eleven", x.curtains(0), -3);
         due.is("eleven", x.curtain(0, 0, 0), -100003);
@@ -318,6 +373,11 @@ public final class CurtainsTest {
         due.is("bad ahead of full", x.next(0, -1), -1);
         due.is("bad ahead of full", x.overhead(0, 0, 5), -1);
         due.is("another night", x.curtains(1), 1);
+        for (int i = 13; i < 40; i++) {
+            due.is("to the last", x.glow(0, 2, 5, 5, 5), i);
+        }
+        due.is("another night of forty", x.curtains(1), 1);
+        due.is("nothing more", x.curtainOf(40), -1);
     }
 
     private static void wrongNumbers() {

@@ -90,6 +90,9 @@ public final class NightsTest {
         rates(x, -1, 10, 10, new int[] {2, 1, 13, 76});
         rates(x, -1, 11, 30, new int[] {1, 0, 4, 0});
         rates(x, -1, 11, 29, new int[] {0, 0, 0, 0});
+        x.watch(2, 50, 9, 8, 1);
+        x.glow(2, 50, 0, 0, 5);
+        rates(x, 2, 50, 50, new int[] {1, 1, 1, 1000});
         int[][] bad = {{-2, 0, 9, 0}, {3, 0, 9, 0}, {0, -1, 9, 0}, {0, 0, 400, 0}, {0, 9, 8, 0}, {0, 0, 9, -1},
             {0, 0, 9, 4}, {MIN, 0, 9, 0}, {-1, MIN, MAX, 0}, {0, 400, 400, 0}};
         for (int[] b : bad) {
@@ -127,6 +130,13 @@ public final class NightsTest {
         due.is("two nights", x.best(), -4);
         x.glow(0, 81, 0, 0, 5);
         due.is("three nights", x.best(), 27);
+        for (int p = 20; p <= 40; p++) {
+            NorthCurtains w = stations(1);
+            for (int i = 0; i < 6; i++) {
+                w.glow(0, 7 + p * i, 0, 0, 5);
+            }
+            due.is("rounds of " + p, w.best(), p);
+        }
         NorthCurtains y = stations(1);
         y.glow(0, 0, 0, 0, 5);
         y.glow(0, 1, 0, 0, 5);

@@ -53,6 +53,9 @@ public final class StationsTest {
         due.is("ninth", x.station(5, 5), -3);
         due.is("bad ninth", x.station(-1, 5), -1);
         due.is("eight", x.count(0), 8);
+        due.is("clock of the eighth", x.clock(7, 1, 1), 1);
+        due.is("clock of a ninth", x.clock(8, 1, 1), -1);
+        due.is("clock of a tenth", x.clock(9, 1, 1), -1);
     }
 
     private static void clock() {
@@ -335,5 +338,7 @@ public final class StationsTest {
         due.is("forty", x.count(1), 40);
         due.is("one night", x.count(4), 1);
         due.is("last", x.told(39, 0), 0);
+        due.is("behind the last", x.told(40, 0), -1001);
+        due.is("far behind the last", x.told(41, 0), -1001);
     }
 }
