@@ -137,6 +137,14 @@ public final class NightsTest {
             }
             due.is("rounds of " + p, w.best(), p);
         }
+        NorthCurtains v = stations(1);
+        NorthCurtains u = stations(1);
+        for (int i = 0; i < 6; i++) {
+            v.glow(0, 19 * i, 0, 0, 5);
+            u.glow(0, 41 * i, 0, 0, 5);
+        }
+        due.is("19 apart are rounds of 38 at most", v.best(), 38);
+        due.is("41 apart are no rounds", u.best(), 40);
         NorthCurtains y = stations(1);
         y.glow(0, 0, 0, 0, 5);
         y.glow(0, 1, 0, 0, 5);
