@@ -192,7 +192,7 @@ public final class NorthCurtains {
     public int cross(int a, int b, int what) {
         Glow first = sightingAt(a);
         Glow second = sightingAt(b);
-        if (first == null || second == null || !isWithin(what, 0, Crossing.VALUES - 1)) {
+        if (first == null || second == null || a == b || !isWithin(what, 0, Crossing.VALUES - 1)) {
             return BAD - BELOW_PLACES;
         }
         if (first instanceof Arc one && second instanceof Arc other) {

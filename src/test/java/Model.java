@@ -168,7 +168,7 @@ public final class Model {
     }
 
     public int cross(int a, int b, int what) {
-        if (!isSighting(a) || !isSighting(b) || !in(what, 0, 6)) return -100001;
+        if (!isSighting(a) || !isSighting(b) || a == b || !in(what, 0, 6)) return -100001;
         Sighting s = sightings.get(a);
         Sighting t = sightings.get(b);
         if (s.kind == 0 || t.kind == 0) return -100012;

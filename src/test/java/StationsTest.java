@@ -301,9 +301,26 @@ public final class StationsTest {
         due.is("what 7 of a glow", x.cross(0, 2, 7), -100001);
         due.is("names nothing", x.cross(0, 4, 0), -100001);
         due.is("names nothing", x.cross(-1, 2, 0), -100001);
-        due.is("one, of one station", x.cross(0, 0, 0), -100004);
-        due.is("one glow", x.cross(2, 2, 0), -100012);
+        crossOfOne();
         crossWestward();
+    }
+
+    /** One sighting named twice is not two, of whichever kind: BAD ahead of CAST and of NONE. */
+    private static void crossOfOne() {
+        NorthCurtains x = crossed(20, 21);
+        x.glow(1, 5, 100, 315, 20);
+        x.ray(1, 5, 100, 315, 20, 1, 3);
+        x.arc(0, 5, 100, 45, 20, 0);
+        for (int one = 0; one < 5; one++) {
+            for (int what = -1; what < 8; what++) {
+                due.is("cross of one, " + one + ", " + what, x.cross(one, one, what), -100001);
+            }
+            due.is("meets of one, " + one, x.meets(one, one), -1);
+            due.is("share of one, " + one, x.share(one, one), -1);
+        }
+        due.is("two of one station do not cross", x.cross(0, 4, 0), -100004);
+        due.is("a glow and an arc of one station", x.cross(2, 3, 0), -100012);
+        due.is("two sightings told alike are two", x.cross(1, 3, 0), -100004);
     }
 
     /** To the west and south the parts are cut toward 0 before they come to a station's place. */
