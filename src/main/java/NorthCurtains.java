@@ -160,7 +160,7 @@ public final class NorthCurtains {
             return cosine(d);
         }
         if (which == 2 && isWithin(d, 1, 89)) {
-            return tangent(d);
+            return TANGENTS[d];
         }
         return BAD - BELOW_PLACES;
     }
@@ -535,10 +535,6 @@ public final class NorthCurtains {
         return sine(d + 90);
     }
 
-    private static int tangent(int d) {
-        return isWithin(d, 1, 89) ? TANGENTS[d] : 0;
-    }
-
     private Station stationAt(int number) {
         return isWithin(number, 0, stationCount - 1) ? stations[number] : null;
     }
@@ -695,10 +691,15 @@ public final class NorthCurtains {
 
     private static class Arc extends Glow {
         final int hue;
+        // Where the bearing points, in thousandths.
+        final int east;
+        final int north;
 
         Arc(Station at, int night, int minute, int bearing, int height, int hue) {
             super(at, night, minute, bearing, height);
             this.hue = hue;
+            this.east = sine(bearing);
+            this.north = cosine(bearing);
         }
 
         int kind() {
@@ -736,23 +737,21 @@ public final class NorthCurtains {
             if (a.at.number == b.at.number) {
                 return false;
             }
-            int turn = sine(a.bearing) * cosine(b.bearing) - cosine(a.bearing) * sine(b.bearing);
+            int turn = a.east * b.north - a.north * b.east;
             if (Math.abs(turn) < LEAST_TURN) {
                 return false;
             }
+            int awayEast = b.at.x - a.at.x;
+            int awayNorth = b.at.y - a.at.y;
             // 1000 times the sums goes beyond an int.
-            long r = 1000L * across(a, b, b.bearing) / turn;
-            long s = 1000L * across(a, b, a.bearing) / turn;
+            long r = 1000L * (awayEast * b.north - awayNorth * b.east) / turn;
+            long s = 1000L * (awayEast * a.north - awayNorth * a.east) / turn;
             if (r < 1 || r > MOST_FAR || s < 1 || s > MOST_FAR) {
                 return false;
             }
             values[FIRST_FAR] = (int) r;
             values[SECOND_FAR] = (int) s;
             return findHeights(a, b, thickness);
-        }
-
-        private static long across(Arc a, Arc b, int bearing) {
-            return (b.at.x - a.at.x) * cosine(bearing) - (b.at.y - a.at.y) * sine(bearing);
         }
 
         private boolean findHeights(Arc a, Arc b, int thickness) {
@@ -763,8 +762,8 @@ public final class NorthCurtains {
             if (Math.abs(first - second) > thickness) {
                 return false;
             }
-            values[X] = a.at.x + r * sine(a.bearing) / 1000;
-            values[Y] = a.at.y + r * cosine(a.bearing) / 1000;
+            values[X] = a.at.x + r * a.east / 1000;
+            values[Y] = a.at.y + r * a.north / 1000;
             values[HEIGHT] = (first + second) / 2;
             values[LOWER_END] = Math.max(rise(r, a.height - 1), rise(s, b.height - 1));
             values[UPPER_END] = Math.min(rise(r, a.height + 1), rise(s, b.height + 1));
@@ -772,7 +771,7 @@ public final class NorthCurtains {
         }
 
         private static int rise(int far, int height) {
-            return far * tangent(height) / 1000;
+            return height >= 1 && height <= 89 ? far * TANGENTS[height] / 1000 : 0;
         }
     }
 

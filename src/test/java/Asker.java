@@ -7,18 +7,33 @@ import java.util.Map;
 /** One object and how often it was asked: nothing is promised behind its 512th call, so no test may go there. */
 final class Asker {
     private static final int MOST_CALLS = 512;
-    private static final Map<String, Method> FACE = new HashMap<>();
+    private static final Map<String, Method> FACE = face(NorthCurtains.class);
+    private static final Map<String, Method> MODEL = face(Model.class);
 
-    static {
-        for (Method m : NorthCurtains.class.getDeclaredMethods()) {
-            if (Modifier.isPublic(m.getModifiers())) {
-                FACE.put(m.getName(), m);
-            }
-        }
+    private final Object asked;
+    private final Map<String, Method> face;
+    private int calls;
+
+    Asker() {
+        asked = new NorthCurtains();
+        face = FACE;
     }
 
-    private final NorthCurtains asked = new NorthCurtains();
-    private int calls;
+    /** Asks the second reading of the document instead. */
+    Asker(Model model) {
+        asked = model;
+        face = MODEL;
+    }
+
+    private static Map<String, Method> face(Class<?> of) {
+        Map<String, Method> found = new HashMap<>();
+        for (Method m : of.getDeclaredMethods()) {
+            if (Modifier.isPublic(m.getModifiers())) {
+                found.put(m.getName(), m);
+            }
+        }
+        return found;
+    }
 
     int ask(String name, int... args) {
         calls++;
@@ -30,7 +45,7 @@ final class Asker {
             boxed[i] = args[i];
         }
         try {
-            return (Integer) FACE.get(name).invoke(asked, boxed);
+            return (Integer) face.get(name).invoke(asked, boxed);
         } catch (InvocationTargetException | IllegalAccessException e) {
             throw new IllegalStateException(call(name, args) + " threw", e.getCause());
         }

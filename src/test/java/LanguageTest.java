@@ -6,7 +6,9 @@ import java.nio.file.Files;
 import java.nio.file.Path;
 import java.util.ArrayList;
 import java.util.List;
+import java.util.Map;
 import java.util.Set;
+import java.util.TreeMap;
 import java.util.TreeSet;
 import java.util.regex.Matcher;
 import java.util.regex.Pattern;
@@ -112,23 +114,52 @@ public final class LanguageTest {
         }
     }
 
-    /** From a method's head at the end of a line to the brace that closes it. */
-    private static void methods() throws Exception {
+    /** The text of each method and constructor by its name, from its head at a line's end to the brace that closes it. */
+    private static Map<String, String> bodies() throws Exception {
         String[] lines = code().split("\n");
-        Pattern head = Pattern.compile("^( {4}| {8})(public |private |static |final )*[\\w\\[\\]]+ ?\\w*\\(([^)]*)\\) \\{$");
-        int found = 0;
+        Pattern head = Pattern.compile("^( {4}| {8})(public |private |static |final )*[\\w\\[\\]]+ ?(\\w*)\\(([^)]*)\\) \\{$");
+        Map<String, String> found = new TreeMap<>();
         for (int i = 0; i < lines.length; i++) {
             Matcher m = head.matcher(lines[i]);
             if (m.find() && !lines[i].trim().matches("(if|for|while|switch) .*")) {
-                found++;
                 int end = i;
+                StringBuilder body = new StringBuilder();
                 while (end < lines.length && !lines[end].equals(m.group(1) + "}")) {
                     end++;
+                    body.append(end < lines.length ? lines[end] : "").append('\n');
                 }
                 due.holds("short: " + lines[i].trim(), end - i <= 60);
-                due.holds("few parameters: " + lines[i].trim(), m.group(3).split(",").length <= 7);
+                due.holds("few parameters: " + lines[i].trim(), m.group(4).split(",").length <= 7);
+                String name = m.group(3).isEmpty() ? lines[i].trim().replaceAll("^public |\\(.*", "") : m.group(3);
+                found.merge(name, body.toString(), String::concat);
             }
         }
-        due.holds("methods are found: " + found, found > 60);
+        return found;
+    }
+
+    /** Like names of several classes count as one method, so what is found is never less than what is. */
+    private static void methods() throws Exception {
+        Map<String, String> bodies = bodies();
+        due.holds("methods are found: " + bodies.size(), bodies.size() > 60);
+        for (String f : FACE) {
+            String name = f.substring(0, f.indexOf(' '));
+            due.holds("the face is found: " + name, bodies.containsKey(name));
+            int deep = deepest(name, bodies, new ArrayList<>());
+            due.holds(name + " goes at most eight deep: " + deep, deep <= 8);
+        }
+    }
+
+    /** How many calls stand open at most; one that is open already is a recursion. */
+    private static int deepest(String name, Map<String, String> bodies, List<String> open) {
+        open.add(name);
+        int most = 0;
+        for (String other : bodies.keySet()) {
+            boolean calls = Pattern.compile("\\b" + other + "\\(").matcher(bodies.get(name)).find();
+            if (calls && !open.contains(other)) {
+                most = Math.max(most, deepest(other, bodies, open));
+            }
+        }
+        open.remove(open.size() - 1);
+        return most + 1;
     }
 }

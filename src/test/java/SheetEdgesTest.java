@@ -52,7 +52,10 @@ public final class SheetEdgesTest {
             Asker x = row(lane, 12);
             States.fill(x, 0, lane, 0, ARC);
             e.is("an arc", x.ask("arcs", 0, lane, 0, 1), 1);
-            e.is("anew", x.ask("sheet", 0, lane, 6), 6);
+            e.is("anew, of as many items", x.ask("sheet", 0, lane, 12), 12);
+            e.is("no arc", x.ask("arcs", 0, lane, 0, 1), NOT);
+            States.fill(x, 0, lane, 0, ARC);
+            e.is("anew, of fewer", x.ask("sheet", 0, lane, 6), 6);
             e.is("height 0", x.ask("arcs", 0, lane, 0, 1), NOT);
             e.is("no seventh item", x.ask("item", 0, lane, 6, 0), INDEX);
             x.ask("item", 0, lane, 4, 2);

@@ -12,7 +12,10 @@ final class States {
      * minute 100, at 100, 100) followed by curtain 1 (2 and 3, minute 110, at 200, 200), and a glow (4).
      */
     static Asker busy() {
-        Asker x = new Asker();
+        return busy(new Asker());
+    }
+
+    static Asker busy(Asker x) {
         int[][] places = {{100, 0}, {200, 0}, {300, 0}, {0, 100}, {0, 200}};
         for (int[] p : places) {
             x.ask("station", p);
@@ -45,7 +48,10 @@ final class States {
 
     /** 8 stations, 40 sightings (night 11 has eleven arcs and a glow, number 11), 60 watches, 20 shared pairs. */
     static Asker full() {
-        Asker x = new Asker();
+        return full(new Asker());
+    }
+
+    static Asker full(Asker x) {
         for (int i = 0; i < 8; i++) {
             x.ask("station", 100 * i, 50 * i);
         }
@@ -69,7 +75,10 @@ final class States {
 
     /** As full, but with one station, one sighting, one watch, one shared pair less. */
     static Asker oneShort() {
-        Asker x = new Asker();
+        return oneShort(new Asker());
+    }
+
+    static Asker oneShort(Asker x) {
         for (int i = 0; i < 7; i++) {
             x.ask("station", 100 * i, 50 * i);
         }
