@@ -32,7 +32,9 @@ public final class LanguageTest {
         face();
         constants();
         members();
+        statics();
         words();
+        library();
         methods();
         due.end();
     }
@@ -95,6 +97,34 @@ public final class LanguageTest {
                 fields += Modifier.isStatic(f.getModifiers()) ? 0 : 1;
             }
             due.holds(c + " has few fields", fields <= 20);
+        }
+    }
+
+    /** Rule 5: no static state; what stands written out may be an array. */
+    private static void statics() {
+        Set<Class<?>> allowed = Set.of(int.class, long.class, boolean.class, char.class, String.class, int[].class,
+            long[].class, char[].class, byte[].class);
+        List<Class<?>> all = new ArrayList<>(List.of(NorthCurtains.class.getDeclaredClasses()));
+        all.add(NorthCurtains.class);
+        for (Class<?> c : all) {
+            for (Field f : c.getDeclaredFields()) {
+                due.holds(f + " is a constant", !Modifier.isStatic(f.getModifiers())
+                    || Modifier.isFinal(f.getModifiers()) && allowed.contains(f.getType()));
+            }
+        }
+    }
+
+    /** Rule 4: of the library nothing but whole-number functions of Math; all other names are the class's own. */
+    private static void library() throws Exception {
+        Set<String> own = new TreeSet<>(Set.of("NorthCurtains"));
+        for (Class<?> c : NorthCurtains.class.getDeclaredClasses()) {
+            own.add(c.getSimpleName());
+        }
+        Set<String> functions = Set.of("max", "min", "abs", "floorDiv", "floorMod");
+        Matcher m = Pattern.compile("\\b([A-Z]\\w*[a-z]\\w*)(?:\\.(\\w+))?").matcher(code());
+        while (m.find()) {
+            due.holds("a name of the library: " + m.group(), own.contains(m.group(1))
+                || m.group(1).equals("Math") && functions.contains(m.group(2)));
         }
     }
 
